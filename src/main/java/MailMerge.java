@@ -510,7 +510,7 @@ public final class MailMerge {
         int compareWith(Text other) {
             int common = Math.min(length(), other.length());
             for (int i = 0; i < common; i++) {
-                int difference = capital(signAt(i)) - capital(other.signAt(i));
+                int difference = capital(signs.charAt(i)) - capital(other.signs.charAt(i));
                 if (difference != 0) {
                     return difference;
                 }
@@ -823,22 +823,18 @@ public final class MailMerge {
 
         boolean readAll() {
             for (int step = 0; step < text.length() && at < text.length() && !isWrong; step++) {
-                readItem();
+                int first = sign();
+                switch (first) {
+                    case '#': addPiece(COUNT); break;
+                    case '@': addPiece(ADDRESS); break;
+                    case '{': readBraces(); break;
+                    case '<': readWords(); break;
+                    case '[': openBrackets(); break;
+                    case ']': closeBrackets(); break;
+                    default: readLiteral(first); break;
+                }
             }
             return !isWrong && depth == 0;
-        }
-
-        private void readItem() {
-            int first = sign();
-            switch (first) {
-                case '#': addPiece(COUNT); break;
-                case '@': addPiece(ADDRESS); break;
-                case '{': readBraces(); break;
-                case '<': readWords(); break;
-                case '[': openBrackets(); break;
-                case ']': closeBrackets(); break;
-                default: readLiteral(first); break;
-            }
         }
 
         private void readLiteral(int first) {
@@ -873,7 +869,11 @@ public final class MailMerge {
                 return;
             }
             Piece piece = addPiece(BRACKETS);
-            readConditions(piece);
+            piece.conditions = readCondition(null);
+            for (int step = 0; step < text.length() && !isWrong && sign() == '&'; step++) {
+                at++;
+                piece.conditions = readCondition(piece.conditions);
+            }
             take(':');
             open[depth] = layout.size - 1;
             depth++;
@@ -892,14 +892,6 @@ public final class MailMerge {
                 piece.following = layout.size;
             }
             at++;
-        }
-
-        private void readConditions(Piece piece) {
-            piece.conditions = readCondition(null);
-            for (int step = 0; step < text.length() && !isWrong && sign() == '&'; step++) {
-                at++;
-                piece.conditions = readCondition(piece.conditions);
-            }
         }
 
         private Condition readCondition(Condition next) {

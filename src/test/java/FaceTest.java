@@ -76,6 +76,9 @@ public final class FaceTest {
         for (Class<?> each : MailMerge.class.getDeclaredClasses()) {
             checks.same(each.getName() + " is static and not public", true,
                     Modifier.isStatic(each.getModifiers()) && !Modifier.isPublic(each.getModifiers()));
+            for (Method inner : each.getDeclaredMethods()) {
+                checks.same(inner + " bears no public name", false, publicNames.contains(inner.getName()));
+            }
         }
         checks.end();
     }

@@ -236,6 +236,8 @@ public final class RunsTest {
         }
         Desk.template(m, "#");
         CHECKS.same("20 letters", 20, m.run());
+        CHECKS.same("their mean length", 1.5, m.meanLength());
+        CHECKS.same("their share", 1f, m.share());
         m.exclude(0, true);
         m.exclude(9, true);
         CHECKS.same("16 letters", 16, m.run());
@@ -453,6 +455,10 @@ public final class RunsTest {
         Desk.field(m, 2, 0, "Bob");
         m.run();
         CHECKS.same("a mean that is no whole number", 10.0 / 3.0, m.meanLength());
+        m.removeRecord(2);
+        m.removeRecord(0);
+        m.run();
+        CHECKS.same("of fewer letters than before", 4.0, m.meanLength());
         Desk.template(m, "");
         m.run();
         CHECKS.same("empty letters", 0.0, m.meanLength());
