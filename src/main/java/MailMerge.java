@@ -508,14 +508,14 @@ public final class MailMerge {
         }
 
         int compareWith(Text other) {
-            int common = Math.min(length(), other.length());
+            int common = Math.min(signs.length(), other.signs.length());
             for (int i = 0; i < common; i++) {
                 int difference = capital(signs.charAt(i)) - capital(other.signs.charAt(i));
                 if (difference != 0) {
                     return difference;
                 }
             }
-            return length() - other.length();
+            return signs.length() - other.signs.length();
         }
 
         static char capital(char sign) {
@@ -609,7 +609,9 @@ public final class MailMerge {
         }
 
         void copyFrom(Setup other) {
-            System.arraycopy(other.entries, 0, entries, 0, MOST_RECORDS);
+            for (int i = 0; i < MOST_RECORDS; i++) {
+                entries[i] = other.entries[i];
+            }
             size = other.size;
             layout = other.layout;
             home = other.home;
@@ -638,12 +640,16 @@ public final class MailMerge {
         }
 
         void removeAt(int number) {
-            moveTo(number, size - 1);
-            size--;
+            if (number >= 0 && number < size) {
+                moveTo(number, size - 1);
+                size--;
+            }
         }
 
-        /** Moves the entry of one existing number to another one. */
         void moveTo(int number, int to) {
+            if (number < 0 || number >= size || to < 0 || to >= size) {
+                return;
+            }
             Entry moved = entries[number];
             for (int i = number; i < to; i++) {
                 entries[i] = entries[i + 1];
@@ -693,22 +699,31 @@ public final class MailMerge {
             return true;
         }
 
-        /** Which record is kept of an existing one and its duplicates; itself if it is excluded. */
+        /** Which record is kept of one and its duplicates; itself if it is excluded. */
         int keptOf(int number, int byPolicy, boolean isBackwards) {
-            if (keys == 0 || isExcluded(entries[number])) {
+            Entry entry = entryAt(number);
+            if (keys == 0 || entry == null || isExcluded(entry)) {
                 return number;
             }
-            int best = -1;
+            int kept = number;
+            Entry best = null;
             for (int step = 0; step < size; step++) {
                 int i = isBackwards ? size - 1 - step : step;
-                if (isExcluded(entries[i]) || !areDuplicates(entries[i], entries[number])) {
+                Entry other = entryAt(i);
+                if (other == null || isExcluded(other) || !areDuplicates(entry, other)) {
                     continue;
                 }
-                boolean isBetter = byPolicy == KEEP_LAST
-                        || byPolicy == KEEP_GREATEST && best >= 0 && entries[i].count > entries[best].count;
-                best = best < 0 || isBetter ? i : best;
+                if (best == null || isBetter(other, best, byPolicy)) {
+                    kept = i;
+                    best = other;
+                }
             }
-            return best;
+            return kept;
+        }
+
+        /** Whether a record is kept rather than one that comes before it. */
+        private static boolean isBetter(Entry later, Entry earlier, int byPolicy) {
+            return byPolicy == KEEP_LAST || byPolicy == KEEP_GREATEST && later.count > earlier.count;
         }
     }
 
@@ -977,7 +992,7 @@ public final class MailMerge {
         }
 
         private static boolean isLiteral(int sign) {
-            return sign >= LOWEST_SIGN && sign <= HIGHEST_SIGN && "#@{}<>|[]/".indexOf(sign) < 0;
+            return sign >= LOWEST_SIGN && sign <= HIGHEST_SIGN && "#@{}<>|[]/".indexOf((char) sign) < 0;
         }
     }
 

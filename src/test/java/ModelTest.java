@@ -125,11 +125,11 @@ public final class ModelTest {
     }
 
     private int record(boolean isTame) {
-        return number(Math.max(1, merger.setting(0)), isTame);
+        return number(Math.max(1, model.setting(0)), isTame);
     }
 
     private int item(boolean isTame) {
-        return number(Math.max(1, merger.template(0)), isTame);
+        return number(Math.max(1, model.template(0)), isTame);
     }
 
     private String template() {
