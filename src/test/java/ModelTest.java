@@ -1,12 +1,15 @@
 import java.util.Random;
 import java.util.concurrent.Callable;
 
-/** Many runs of 512 random calls, always the same ones, compared with the model. */
+/** Many runs of 512 random calls, always the same ones, and all short templates, compared with the model. */
 public final class ModelTest {
     private static final int RUNS = 1500;
     private static final int CALLS = 512;
     private static final String[] TEXTS = {"", "a", "A", "ann", "Ann", "ANN", "anne", "bob smith", "Z{", "z[", "_x`",
         "abcdefghijkl", "ABCDEFGHIJKL", "abcdefghijklm", "ab/c", "/", "abcdefghijkl/", "Peru", "PERU", "1st", " a"};
+
+    private static final String SIGNS = "a0/#{}<>|[]&:!gn=^5";
+    private static final String[] BEFORE = {"", "[", "[n", "[n=", "[0&", "<", "{", "{0", "[0:[1:[2:[3:", "[0:[1:[2:[3:]", "a]"};
 
     private final Random random;
     private final MailMerge merger = new MailMerge();
@@ -27,7 +30,30 @@ public final class ModelTest {
             failures += isRight ? 0 : 1;
             checks.same("run " + seed + run.log, true, isRight);
         }
+        for (String before : BEFORE) {
+            checks.same("short templates after " + before, "", wrongTemplates(before));
+        }
         checks.end();
+    }
+
+    /** The templates up to three signs behind a beginning for which the answers are not those of the model. */
+    private static String wrongTemplates(String before) {
+        StringBuilder wrong = new StringBuilder();
+        ModelTest run = new ModelTest(0);
+        int signs = SIGNS.length() + 1;
+        for (int i = 0; i < signs * signs * signs; i++) {
+            StringBuilder text = new StringBuilder(before);
+            for (int rest = i; rest > 0; rest /= signs) {
+                text.append(rest % signs == 0 ? "" : SIGNS.charAt(rest % signs - 1));
+            }
+            if (run.calls + text.length() / 4 + 6 > CALLS) {
+                run = new ModelTest(0);
+            }
+            boolean isRight = run.types(text.toString(), true) && run.same("setTemplate") && run.same("errorPosition")
+                    && run.same("template", 0) && run.same("template", 3);
+            wrong.append(isRight || wrong.length() > 100 ? "" : " " + text);
+        }
+        return wrong.toString();
     }
 
     private boolean goesWell() {
