@@ -571,16 +571,6 @@ public final class MailMerge {
             }
             return mask;
         }
-
-        boolean comesBefore(Entry other, int field, boolean isDescending) {
-            Text mine = textAt(field);
-            Text theirs = other.textAt(field);
-            if (mine.isEmpty() || theirs.isEmpty()) {
-                return !mine.isEmpty();
-            }
-            int difference = mine.compareWith(theirs);
-            return isDescending ? difference > 0 : difference < 0;
-        }
     }
 
     /** The records, the template and the settings: all that undo and the snapshot bring back. */
@@ -662,10 +652,11 @@ public final class MailMerge {
 
         /** Sorts, with room for an order of all records, and returns how many numbers change. */
         int sortBy(int field, boolean isDescending, int[] order) {
-            for (int i = 0; i < size; i++) {
-                Entry entry = entries[i];
+            int all = Math.min(size, order.length);
+            for (int i = 0; i < all; i++) {
+                Entry entry = entryAt(i);
                 int to = i;
-                for (int j = i - 1; j >= 0 && entry.comesBefore(entries[j], field, isDescending); j--) {
+                for (int j = i - 1; j >= 0 && comesBefore(entry, entryAt(j), field, isDescending); j--) {
                     entries[j + 1] = entries[j];
                     order[j + 1] = order[j];
                     to = j;
@@ -674,10 +665,23 @@ public final class MailMerge {
                 order[to] = i;
             }
             int changed = 0;
-            for (int i = 0; i < size; i++) {
+            for (int i = 0; i < all; i++) {
                 changed += order[i] == i ? 0 : 1;
             }
             return changed;
+        }
+
+        private static boolean comesBefore(Entry one, Entry other, int field, boolean isDescending) {
+            if (one == null || other == null) {
+                return false;
+            }
+            Text mine = one.textAt(field);
+            Text theirs = other.textAt(field);
+            if (mine.isEmpty() || theirs.isEmpty()) {
+                return !mine.isEmpty();
+            }
+            int difference = mine.compareWith(theirs);
+            return isDescending ? difference > 0 : difference < 0;
         }
 
         /** The fields that the address block of an entry consists of, as a bit mask. */
