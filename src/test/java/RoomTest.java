@@ -29,9 +29,9 @@ public final class RoomTest {
             takes("templates " + text, CALLS, (m, call) -> template(m, text, call));
         }
         takes("fields", CALLS, (m, call) -> {
-            if (m.setting(0) == 0) {
+            if (call == 0) {
                 m.addRecord(1, 1);
-            } else if (call % 2 == 0) {
+            } else if (call % 2 == 1) {
                 m.append(0x61626364);
             } else {
                 m.setField(0, call % 5);
